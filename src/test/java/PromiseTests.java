@@ -171,6 +171,7 @@ public final class PromiseTests {
     x.say(5);
     x.storm(3);
     is("say(777777)", x.say(777777), FULL);
+    is("say(999999)", x.say(999999), FULL);
     is("count(10)", x.count(10), 3);
     is("say(0)", x.say(0), BAD);
     is("count(10)", x.count(10), 3);
@@ -725,7 +726,13 @@ public final class PromiseTests {
 
   /** 70000 cut to a short is 4464. */
   private static void filmCuts() {
-    HeardNumbers x = heard("70;t");
+    HeardNumbers x = heard("7;s;8");
+    fill(x, 0, 2, 5, 5, 5, 5);
+    is("film(0, 2, 1)", x.film(0, 2, 1), 2);
+    x.say(5);
+    is("meant(0, 2, 0, 1), the item ahead", x.meant(0, 2, 0, 1), 1 | 4 | 16);
+    is("meant(0, 2, 3, 1), the item behind", x.meant(0, 2, 3, 1), 1 | 4 | 16);
+    x = heard("70;t");
     x.sheet(0, 1, 1);
     is("film(0, 1, 0)", x.film(0, 1, 0), 1);
     is("meant(0, 1, 0, 1)", x.meant(0, 1, 0, 1), 0);
@@ -745,8 +752,10 @@ public final class PromiseTests {
     is("sheet(0, 0, LOWEST)", x.sheet(0, 0, LOWEST), SIZE);
     int[][] bad = {{4, 0, 0}, {-1, 0, 0}, {0, 4, 0}, {0, -1, 0}, {4, 0, -1}, {0, 4, -1}, {0, 0, HIGHEST}};
     for (int[] b : bad) is("sheet(" + b[0] + ", " + b[1] + ", " + b[2] + ")", x.sheet(b[0], b[1], b[2]), BAD);
+    is("film(3, 3, 0)", x.film(3, 3, 0), 1);
     is("film(3, 3, 23)", x.film(3, 3, 23), 1);
     is("sheet(3, 3, 24) anew", x.sheet(3, 3, 24), 24);
+    is("meant(3, 3, 0, 1)", x.meant(3, 3, 0, 1), 0);
     is("meant(3, 3, 23, 1)", x.meant(3, 3, 23, 1), 0);
     is("sheet(3, 1, 2) of another lane", x.sheet(3, 1, 2), 2);
     is("film(3, 3, 0)", x.film(3, 3, 0), CAST);
