@@ -40,7 +40,11 @@ public final class EdgesOfLooking extends Edges {
         "slack 2", "counted 1 0 ! 3", "counted 1 1 ! 6", "counted 2 0 ! NONE", "counted 2 1 ! NONE", "counted MAX 0 ! NONE");
     edge(said, SIXTY_FOUR, "counted 0 1 ! 1", "counted 3 1 ! 4", "counted 59 1 ! 4", "counted 60 1 ! 1", "counted 63 1 ! 4", "counted 63 0 ! 0", "counted 64 1 ! NONE", "counted 64 0 ! NONE");
     edge(said, SIXTY_FOUR.replace("4'", "4:2'"), "count 5 ! 48", "slack 2", "counted 59 0 ! 2", "counted 60 0 ! 0", "counted 62 0 ! 0", "counted 63 0 ! 2", "counted 64 0 ! NONE");
+    // the first three are not counted, the others are
+    edge(said, "text '4:1,1,2,3;s;4:1,1,2,3;s;4:1,3:1,2:1,1'", "slack 2", "count 5 ! 61", "counted 0 0 ! 2", "counted 0 1 ! 1", "counted 59 1 ! 2", "counted 60 1 ! 1", "counted 60 0 ! 0", "counted 61 1 ! NONE");
+    edge(said, "text '4,1,2,3;s;4,1,2,3;s;4,3,2,1'", "check 3", "slack 1", "also 1 0 0", "hear 0 0", "hear 0 0", "also 6 31 0", "count 5 ! 6", "counted 5 1 ! 4", "counted 6 1 ! NONE");
     said = "WORDS (a set) of a SLOT by those COUNTED. BAD.";
+    edge(said, "text '5,6,7,8;n;s;9,10,11,12;s;1,2,3,4;n;n'", "open 0 ! {5,6,7,8}", "open 3 ! {9,10,11,12}", "open 5 ! {1,2,3,4}", "text '20;n;n;n;n;n;n;1,2,3,4'", "open 7 ! {1,2,3,4}", "open 6 ! {0}");
     edge(said, "open 0 ! BAD", "text '5:1,6:3,t;n'", "open -1 ! BAD", "open MIN ! BAD", "open 0 ! {5}", "open 1 ! {0}", "open 2 ! BAD", "open MAX ! BAD", "slack 1", "open 0 ! {5}", "slack 2", "open 0 ! {5,6}", "check 1", "open 0 ! {}", "open 2 ! BAD");
   }
 
@@ -80,6 +84,7 @@ public final class EdgesOfLooking extends Edges {
     edge(said, "text 'n,5;n,5,6'", "count 5 ! 3", "count 6 ! 1", "count 7 ! 1", "text '1,2;s;n,5;n,5'", "count 5 ! 4", "count 6 ! 0", "count 7 ! 1");
     // the same last number is not the same numbers, nor is a number more
     edge(said, "text '1,2;s;5'", "count 7 ! 1", "text '5;n,s;n,5'", "count 5 ! 2", "count 7 ! 1");
+    edge(said, "text '1,2;s;3,4'", "count 7 ! 2", "text 'n,5;n,5'", "count 5 ! 2", "count 7 ! 0");
   }
 
   private static void fraction(String said, String text, int kind, int v, long above, long below) {
@@ -89,11 +94,14 @@ public final class EdgesOfLooking extends Edges {
   private static void likelyOnes() {
     String said = "LIKELY (v 0 .. 999999): above (what 0), below (1); NONE. BAD.";
     edge(said, "likely 0 0 ! NONE", "likely 0 1 ! NONE", "text '5'", "likely -1 0 ! BAD", "likely 0 0 ! 0", "likely 0 1 ! 1", "likely 999999 0 ! 0", "likely 999999 1 ! 1", "likely 1000000 0 ! BAD", "likely MIN 0 ! BAD", "likely MAX 0 ! BAD",
-        "likely 5 -1 ! BAD", "likely 5 2 ! BAD", "likely 5 MIN ! BAD", "likely 5 MAX ! BAD", "likely 5 0 ! 1", "likely 5 1 ! 1", "check 1", "likely 5 0 ! NONE", "likely 5 1 ! NONE", "likely -1 0 ! BAD", "likely 5 2 ! BAD");
+        "likely 5 -1 ! BAD", "likely 5 2 ! BAD", "likely 5 MIN ! BAD", "likely 5 MAX ! BAD", "likely 5 0 ! 1", "likely 5 1 ! 1", "likely 0 0 ! 0", "likely 0 1 ! 1", "likely 5 0 ! 1", "likely 6 0 ! 0", "check 1", "likely 5 0 ! NONE", "likely 5 1 ! NONE", "likely -1 0 ! BAD", "likely 5 2 ! BAD");
     said = "a READING weighs as much as 10 less the COST of each of its CANDIDATES, multiplied";
     fraction(said, "5:9,6:0", 0, 5, 1, 11);
     fraction(said, "5:9,6:0", 0, 6, 10, 11);
     fraction(said, "5:3,6:4", 0, 6, 6, 13);
+    fraction(said, "5:9", 0, 5, 1, 1);
+    fraction(said, "5:9;n:9;n:9;n:9;n:9;n:9;n:9;n:9", 0, 5, 1, 1);
+    fraction(said, "5:9;n:9;n:9;n:9;n:9;n:9;n:9;n:9", 0, 6, 0, 1);
     fraction(said, "5:9,6:8;n:9", 0, 6, 2, 3);
     fraction(said, "5:3,6:4;s;1:1,2:7", 0, 2, 1, 4);
     fraction(said, "9;h;90,80:9;9,8:9;t;9,8:9;h,n:9;90", 0, 999990, 1000, 1331);
@@ -177,6 +185,11 @@ public final class EdgesOfLooking extends Edges {
       edge(said, state, "count " + what + " ! " + x.count(what));
     }
     edge(said, state, "best -2 ! 2", "best -1 ! 0", "best 0 ! 5", "taken 0 ! 5", "open 0 ! {5}", "open 1 ! {28,31}", "counted 0 0 ! 0", "counted 0 1 ! 6", "counted 99 0 ! NONE", "meant 0 2 0 2 ! {0,2,4}", "slot 0 -1 0 ! 3");
+    String asked = "count 3\ncount 4\ncount 5\ncount 6\ncount 7\ncount 8\ncount 9\nbest 0\ntaken 0\nopen 0\ncounted 0 1\nlikely 6 0\nlikely 6 1\nmeant 0 2 0 2\n";
+    for (String done : new String[] {"hear 0 1", "hear 31 0", "also 0 7 0", "lose 0", "lose 3", "settle 0 6", "settle 2 5", "check 1", "check 0", "slack 0", "slack 20", "storm 1", "storm 5", "undo", "restore", "say 25", "text ''", "text '5,6;7'", "seed 6", "image"}) {
+      String typed = done.startsWith("text") ? "words\n" : "";
+      same(said, state + typed + done, state + typed + asked + done);
+    }
     HeardNumbers x = after(state);
     edge(said, state, "likely 6 0 ! " + x.likely(6, 0), "likely 6 1 ! " + x.likely(6, 1), "likely 7 0 ! 0");
   }

@@ -25,7 +25,7 @@ public final class EdgesOfSheets extends Edges {
     edge(said, row(0, 2, 1, 2, 3, 6), "text '1;s;2;s;3;s;6'", "meant 0 2 0 4 ! {0,1,2,3}", "text '1;s;2;s;3'", "meant 0 2 0 3 ! {0,1,2,3,4}", "text '1;s;2;s;3;s;7'", "meant 0 2 0 4 ! 0");
     edge(said, row(0, 2, 5, 105), "text '5;s;1;h;5'", "meant 0 2 0 2 ! {0,2,3,4}", row(0, 2, 5, 5), "text '5;s;5'", "meant 0 2 0 2 ! {0,1,3}", row(0, 2, 6, 5), "text '6;s;5'", "meant 0 2 0 2 ! {0}");
     edge(said, row(0, 2, 6, 7, 5, 5), "text '5:1,6;s;7,11,12:2,5:3'", "meant 0 2 0 2 ! {0,2,4}", "meant 0 2 2 2 ! {1,3}", "meant 0 2 1 2 ! 0", "check 3", "meant 0 2 0 2 ! {0,2,4}", "count 1 ! 3", "slack 20", "meant 0 2 0 2 ! {0,2,4}");
-    edge(said, row(0, 2, 5), "meant 0 2 0 1 ! 0", "text 't'", "meant 0 2 0 1 ! 0", "text '5,6'", "meant 0 2 0 1 ! {0,2,4}", "text '6,5'", "meant 0 2 0 1 ! 0", "text '6:1,5'", "meant 0 2 0 1 ! {0,2,4}");
+    edge(said, row(0, 2, 5), "meant 0 2 0 1 ! 0", "text 't'", "meant 0 2 0 1 ! 0", "text '5,6'", "meant 0 2 0 1 ! {0,2,4}", "text '6,5'", "meant 0 2 0 1 ! 0", "text '6:1,5'", "meant 0 2 0 1 ! {0,2,4}", "text '5:1,6'", "meant 0 2 0 1 ! 0", "text '5:2,6:1,7'", "meant 0 2 0 1 ! 0");
   }
 
   private static void meantRefused() {

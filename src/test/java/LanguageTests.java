@@ -86,11 +86,13 @@ public final class LanguageTests {
       must(!Pattern.compile("\\b" + word + "\\b").matcher(code).find(), "the word " + word + " is not in the code");
     }
     must(!code.contains("->") && !code.contains("::"), "rule 2: no lambda, no method reference");
-    must(!code.contains("\""), "no texts are needed");
     Matcher m = Pattern.compile("\\b(Math|Long|Integer|System|Arrays|String|StringBuilder)\\b(\\.\\w+)?").matcher(code);
     Set<String> library = new TreeSet<>();
     while (m.find()) library.add(m.group());
-    must(Set.of("Math.max", "Long.bitCount", "System.arraycopy").containsAll(library), "rule 4: " + library);
+    for (String use : library) {
+      boolean ofNumbers = use.matches("(Math|Long|Integer)(\\.\\w+)?") && !use.endsWith("Exact");
+      must(ofNumbers || Set.of("System.arraycopy", "Arrays.copyOf", "Arrays.copyOfRange", "Arrays.fill", "String", "StringBuilder").contains(use), "rule 4: " + use);
+    }
     for (char c : source.toCharArray()) must(c == '\n' || c >= 32 && c < 127, "plain signs");
     methodLengths(source);
   }

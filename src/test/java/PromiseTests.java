@@ -177,7 +177,6 @@ public final class PromiseTests {
     is("count(10)", x.count(10), 3);
     is("say(6)", x.say(6), 1);
     is("count(10)", x.count(10), 0);
-    for (int v = 1; v <= 999999; v += 7) if (x.say(v) > 0) is("best(0) of " + v, x.best(0), v);
   }
 
   private static void slotTells() {

@@ -18,6 +18,7 @@ import java.util.regex.Pattern;
 public final class RunsAgainstModel {
   private static final int BAD = -1, NOT = -2, FULL = -3, NONE = -4, NULL = -11, CAST = -12, INDEX = -13, SIZE = -14;
   private static int wrong = 0;
+  private static final Pattern UNSAID = Pattern.compile("(?<![0-9])0[1-9]");
   private static final Map<String, Set<Long>> seen = new HashMap<>();
 
   // ---- the model
@@ -627,7 +628,9 @@ public final class RunsAgainstModel {
     }
     StringBuilder s = new StringBuilder();
     for (int i = 0; i < words.size(); i++) s.append(i == 0 ? "" : ";").append(noisy(words.get(i), draw.nextInt(most + 1)));
-    return spoil(s);
+    String spoilt = spoil(new StringBuilder(s));
+    // whether 05 is a number is left unsaid
+    return UNSAID.matcher(spoilt).find() ? s.toString() : spoilt;
   }
 
   private String spoil(StringBuilder s) {
@@ -679,7 +682,11 @@ public final class RunsAgainstModel {
   private void ask() {
     int a = slot(), k = near(0, 4), what = near(0, 1);
     switch (draw.nextInt(9)) {
-      case 0 -> { int q = near(-1, 4); due("slot(" + a + ", " + q + ", " + what + ")", x.slot(a, q, what), m.slot(a, q, what)); }
+      // how many CANDIDATES there are is asked for with what 0 or 1 alone: the document leaves the rest unsaid
+      case 0 -> {
+        int q = near(-1, 4), p = q == -1 ? draw.nextInt(2) : what;
+        due("slot(" + a + ", " + q + ", " + p + ")", x.slot(a, q, p), m.slot(a, q, p));
+      }
       case 1, 2, 3 -> { int q = near(0, 10); due("count(" + q + ")", x.count(q), m.count(q)); }
       case 4 -> { int q = near(-2, 3); due("best(" + q + ")", x.best(q), m.best(q)); }
       case 5 -> due("taken(" + a + ")", x.taken(a), m.taken(a));
@@ -740,7 +747,8 @@ public final class RunsAgainstModel {
 
   private void run() {
     tell(text());
-    while (calls < 400) {
+    // what comes behind these, and a text, stays within the 512 calls
+    while (calls < 280) {
       int d = draw.nextInt(10);
       if (d < 3) act(); else if (d < 8) ask(); else useSheets();
       if (d == 9 && draw.nextInt(30) == 0) tell(text());
@@ -760,7 +768,7 @@ public final class RunsAgainstModel {
   }
 
   public static void main(String[] args) {
-    int runs = args.length > 0 ? Integer.parseInt(args[0]) : 1500;
+    int runs = args.length > 0 ? Integer.parseInt(args[0]) : 2000;
     int from = args.length > 1 ? Integer.parseInt(args[1]) : 0;
     for (int i = 0; i < runs && wrong < 5; i++) new RunsAgainstModel(from + i).run();
     mustHaveSeen("type", 1, BAD);
