@@ -53,7 +53,7 @@ abstract class Edges {
   static void of(String said) {
     sentence = said;
     sentences.add(said);
-    if (!DOC.contains(said)) fail("there is no such sentence in the document");
+    if (DOC != null && !DOC.contains(said)) fail("there is no such sentence in the document");
   }
 
   static void is(String call, long got, long want) {
@@ -106,11 +106,13 @@ abstract class Edges {
 
   // ---- how rows are played
 
+  /** Null, if it is not there: the rows can be played without it, but then no quotation is looked up. */
   private static String document() {
     try {
       return Files.readString(Path.of("../shared/DOC.md"));
     } catch (java.io.IOException e) {
-      throw new IllegalStateException("there is no document", e);
+      System.out.println("../shared/DOC.md can't be read: quotations are not looked up");
+      return null;
     }
   }
 
