@@ -71,7 +71,7 @@ public final class EdgesOfSheets extends Edges {
       String lanes = "0 bytes, 1 shorts, 2 ints, 3 longs (all with a sign), of 0 to 24 items";
       for (int sheet = 0; sheet < 4; sheet++) {
         for (int n : new int[] {0, 1, 23, 24}) {
-          edge(lanes, "sheet " + sheet + " " + lane + " " + n + " = " + n, "item " + sheet + " " + lane + " " + (n - 1) + " 5 = " + (n == 0 ? "INDEX" : "1"), "item " + sheet + " " + lane + " " + n + " 5 ! INDEX",
+          edge(lanes, "sheet " + sheet + " " + lane + " " + n + " = " + n, "item " + sheet + " " + lane + " " + (n - 1) + " 5 " + (n == 0 ? "! INDEX" : "= 1"), "item " + sheet + " " + lane + " " + n + " 5 ! INDEX",
               "item " + sheet + " " + (lane + 1) % 4 + " 0 5 ! CAST", "drop " + sheet + " = " + n);
         }
       }

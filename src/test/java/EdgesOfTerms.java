@@ -57,7 +57,7 @@ public final class EdgesOfTerms extends Edges {
 
   private static void badAheadOfAll() {
     String said = "of several BAD ahead of all others";
-    edge(said, times(120, "type 53"), "type 31 = BAD", "type 127 = BAD", "type 53 = FULL");
+    edge(said, times(120, "type 53"), "type 31 ! BAD", "type 127 ! BAD", "type 53 ! FULL");
     edge(said, "text '5,6'", "slot 1 9 0 ! BAD", "slot 0 9 2 ! BAD", "slot 0 9 -1 ! BAD", "slot 0 9 0 ! NONE");
     edge(said, times(8, "hear 5 0"), "hear 32 0 ! BAD", "hear 5 10 ! BAD", "hear -1 0 ! BAD", "hear 5 -1 ! BAD", "hear 5 0 ! FULL");
     edge(said, "text '5,6,7,8'", "also 0 5 10 ! BAD", "also 0 5 -1 ! BAD", "also 0 9 10 ! BAD", "also 0 32 0 ! BAD", "also 1 5 0 ! BAD");
